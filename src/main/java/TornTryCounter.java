@@ -312,9 +312,10 @@ public final class TornTryCounter {
 
     /** The bytes, and the one place where an operation is counted and can be torn. */
     private static final class Flash {
-        static final int PAGES = 2;
         static final int PAGE_SIZE = 16;
         static final int BLANK = 255;
+
+        private static final int PAGE_COUNT = 2;
 
         // A tear with every bit of the mask leaves nothing undone, so a whole operation is done as one.
         private static final int WHOLE = 255;
@@ -326,9 +327,9 @@ public final class TornTryCounter {
         private int tearMask;
 
         Flash() {
-            bytes = new int[PAGES * PAGE_SIZE];
-            erases = new int[PAGES];
-            for (int i = 0; i < PAGES * PAGE_SIZE; i++) {
+            bytes = new int[PAGE_COUNT * PAGE_SIZE];
+            erases = new int[PAGE_COUNT];
+            for (int i = 0; i < bytes.length; i++) {
                 bytes[i] = BLANK;
             }
             operationsDone = 0;
@@ -337,13 +338,15 @@ public final class TornTryCounter {
         }
 
         int read(int page, int at) {
-            return isByte(page, at) ? bytes[page * PAGE_SIZE + at] : BLANK;
+            int place = page * PAGE_SIZE + at;
+            return place >= 0 && place < bytes.length ? bytes[place] : BLANK;
         }
 
         /** For the bytes that a card is made with, which are no operations. */
         void preset(int page, int at, int value) {
-            if (isByte(page, at)) {
-                bytes[page * PAGE_SIZE + at] = value;
+            int place = page * PAGE_SIZE + at;
+            if (place >= 0 && place < bytes.length) {
+                bytes[place] = value;
             }
         }
 
@@ -351,8 +354,9 @@ public final class TornTryCounter {
         boolean program(int page, int at, int value) {
             boolean torn = countOperation();
             int mask = torn ? tearMask : WHOLE;
-            if (isByte(page, at)) {
-                bytes[page * PAGE_SIZE + at] &= value | ~mask;
+            int place = page * PAGE_SIZE + at;
+            if (place >= 0 && place < bytes.length) {
+                bytes[place] &= value | ~mask;
             }
             return !torn;
         }
@@ -397,11 +401,7 @@ public final class TornTryCounter {
         }
 
         private static boolean isPage(int page) {
-            return page >= 0 && page < PAGES;
-        }
-
-        private static boolean isByte(int page, int at) {
-            return page >= 0 && page < PAGES && at >= 0 && at < PAGE_SIZE;
+            return page >= 0 && page < PAGE_COUNT;
         }
     }
 }

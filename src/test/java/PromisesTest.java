@@ -85,11 +85,13 @@ public final class PromisesTest {
     }
 
     private static void promise1Numbers() {
-        TornTryCounter x = new TornTryCounter(0xABC1234F, 0x80010002, 7, 7);
-        CHECK.due("1: lowest 16 bits", x.verify(0x234F), RIGHT);
+        TornTryCounter x = new TornTryCounter(0xABC1A34F, 0x80010002, 7, 7);
+        CHECK.due("1: lowest 16 bits", x.verify(0xA34F), RIGHT);
+        CHECK.due("1: all of the 16 bits", x.verify(0x234F), WRONG);
+        CHECK.due("1: 0 is no master number", x.verify(0), WRONG);
         CHECK.due("1: lower byte alone", x.verify(0x4F), WRONG);
-        CHECK.due("1: higher byte alone", x.verify(0x2300), WRONG);
-        CHECK.due("1: bytes the other way", x.verify(0x4F23), WRONG);
+        CHECK.due("1: higher byte alone", x.verify(0xA300), WRONG);
+        CHECK.due("1: bytes the other way", x.verify(0x4FA3), WRONG);
         CHECK.due("1: all 32 bits of the PUK", x.unblock(0x00010002, 1), WRONG);
         CHECK.due("1: all 32 bits of the PUK", x.unblock(2, 1), WRONG);
         CHECK.due("1: all 32 bits of the PUK", x.unblock(0x80010002, 1), RIGHT);
