@@ -3,8 +3,11 @@ import java.util.Random;
 /** Long runs, always the same ones, of the program and of PlainCard side by side: promises 1 to 16. */
 public final class AgainstPlainCardTest {
     private static final Check CHECK = new Check("AgainstPlainCardTest");
-    private static final int RUNS = 4000;
+    private static final int RUNS = 20000;
+
+    // What a card answers behind these is free, so that asking counts here too.
     private static final int CALLS = 512;
+    private static final int CALLS_OF_A_LOOK = 10;
     private static final int[] ODD = {0, 1, -1, 2, 31, 255, 256, 65535, 65536, Integer.MIN_VALUE, Integer.MAX_VALUE};
 
     private final Random random;
@@ -15,10 +18,13 @@ public final class AgainstPlainCardTest {
     private int pin;
     private int lastNext;
     private final int wrongInTen;
+    private final int stepsToALook;
+    private int calls = 0;
 
     private AgainstPlainCardTest(int run) {
         random = new Random(run);
         wrongInTen = run % 5;
+        stepsToALook = 1 << run % 6;
         pin = number();
         lastNext = pin;
         puk = random.nextInt();
@@ -32,15 +38,21 @@ public final class AgainstPlainCardTest {
 
     public static void main(String[] args) {
         for (int run = 0; run < RUNS && CHECK.clean(); run++) {
-            new AgainstPlainCardTest(run).go();
+            new AgainstPlainCardTest(run).go(run % 7 == 0 ? 245 + run % 12 : 0);
         }
         CHECK.end();
     }
 
-    private void go() {
-        for (int i = 0; i < CALLS && CHECK.clean(); i++) {
+    /** With so many turns first, that the generation comes to 255 and behind it. */
+    private void go(int turns) {
+        for (int i = 0; i < turns; i++) {
+            same("change(" + pin + ", " + pin + ")", card.change(pin, pin), plain.change(pin, pin));
+        }
+        for (int steps = 1; calls + CALLS_OF_A_LOOK < CALLS && CHECK.clean(); steps++) {
             step();
-            look();
+            if (steps % stepsToALook == 0 && calls + CALLS_OF_A_LOOK <= CALLS) {
+                look();
+            }
         }
     }
 
@@ -130,6 +142,7 @@ public final class AgainstPlainCardTest {
     }
 
     private void same(String call, int got, int want) {
+        calls++;
         if (!call.endsWith("()") || call.equals("cut()") || call.equals("start()")) {
             told.append("; ").append(call).append(" = ").append(got);
         }

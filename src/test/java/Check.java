@@ -3,11 +3,17 @@ final class Check {
     private static final int MOST_PRINTED = 20;
 
     private final String test;
+    private String sentence = "";
     private int wrong = 0;
     private int looked = 0;
 
     Check(String test) {
         this.test = test;
+    }
+
+    /** What is looked at from here on is due by this sentence of the document. */
+    void says(String quoted) {
+        sentence = " [" + quoted + "]";
     }
 
     void due(String what, long got, long want) {
@@ -17,7 +23,7 @@ final class Check {
         }
         wrong++;
         if (wrong <= MOST_PRINTED) {
-            System.out.println(test + ": " + what + " answered " + got + ", due is " + want);
+            System.out.println(test + sentence + ": " + what + " answered " + got + ", due is " + want);
         }
     }
 
