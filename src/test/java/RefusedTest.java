@@ -199,20 +199,25 @@ public final class RefusedTest {
     private static void refused(String what, State state, Cards.Call call, int due) {
         CHECK.says("A call that is refused changes nothing.");
         for (int[] armed : ARMED) {
-            String where = what + ", armed " + armed[0] + " with " + armed[1];
-            TornTryCounter x = state.make();
-            TornTryCounter y = state.make();
-            if (armed[0] > 0) {
-                x.arm(armed[0], armed[1]);
-                y.arm(armed[0], armed[1]);
+            for (int first = 0; first < LATER.length; first++) {
+                TornTryCounter x = state.make();
+                TornTryCounter y = state.make();
+                if (armed[0] > 0) {
+                    x.arm(armed[0], armed[1]);
+                    y.arm(armed[0], armed[1]);
+                }
+                refused(what + ", armed " + armed[0] + " with " + armed[1], x, call, due);
+                alikeFromHere(what + ", armed " + armed[0] + " with " + armed[1], x, y, first);
             }
-            int[] before = Cards.sight(x);
-            CHECK.due(where, call.on(x), due);
-            int[] after = Cards.sight(x);
-            for (int i = 0; i < before.length; i++) {
-                CHECK.due(where + ": question " + i, after[i], before[i]);
-            }
-            alikeFromHere(where, x, y);
+        }
+    }
+
+    private static void refused(String what, TornTryCounter x, Cards.Call call, int due) {
+        int[] before = Cards.sight(x);
+        CHECK.due(what, call.on(x), due);
+        int[] after = Cards.sight(x);
+        for (int i = 0; i < before.length; i++) {
+            CHECK.due(what + ": question " + i, after[i], before[i]);
         }
     }
 
@@ -223,13 +228,16 @@ public final class RefusedTest {
         x -> x.start() ? 1 : 0, x -> x.verify(PIN), x -> x.start() ? 1 : 0, x -> x.verify(OTHER)
     };
 
-    private static void alikeFromHere(String where, TornTryCounter x, TornTryCounter y) {
+    /** Each of the later calls comes first once: one that is refused too could hide what the refused one did. */
+    private static void alikeFromHere(String where, TornTryCounter x, TornTryCounter y, int first) {
         for (int i = 0; i < LATER.length; i++) {
-            CHECK.due(where + ": later call " + i, LATER[i].on(x), LATER[i].on(y));
+            int later = (first + i) % LATER.length;
+            String behind = where + ", from later call " + first + " to " + later;
+            CHECK.due(behind, LATER[later].on(x), LATER[later].on(y));
             int[] sightOfX = Cards.sight(x);
             int[] sightOfY = Cards.sight(y);
             for (int k = 0; k < sightOfX.length; k++) {
-                CHECK.due(where + ": question " + k + " behind later call " + i, sightOfX[k], sightOfY[k]);
+                CHECK.due(behind, sightOfX[k], sightOfY[k]);
             }
         }
         for (int i = 1; i <= 41; i++) {

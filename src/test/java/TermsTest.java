@@ -46,6 +46,7 @@ public final class TermsTest {
         turnGenerationBehind255();
         markWithAFreeEntry();
         markWithNoFreeEntry();
+        markInTheFirstFreeEntry();
         markTornWhileTurning();
         markTornBehindTheTurn();
         tryLocked();
@@ -415,18 +416,18 @@ public final class TermsTest {
 
     private static void activeIsTheGoodOne() {
         CHECK.says("The ACTIVE page is the good one");
-        TornTryCounter x = Cards.wide();
-        CHECK.due("page 0 alone is good", x.page(), 0);
-        TornTryCounter y = Cards.turned();
-        y.arm(3, 255);
-        y.change(PIN, OTHER);
-        CHECK.due("page 1 alone is good", y.page(), 1);
-        CHECK.due("generation of it", y.generation(), 1);
-        TornTryCounter z = Cards.old(2);
-        z.arm(3, 255);
-        z.change(PIN, OTHER);
-        CHECK.due("page 0 alone is good again", z.page(), 0);
-        CHECK.due("generation of it", z.generation(), 2);
+        CHECK.due("page 0 alone is good", Cards.wide().page(), 0);
+        for (int turns = 0; turns <= 3; turns++) {
+            for (int n = 3; n <= 8; n++) {
+                TornTryCounter x = Cards.old(turns);
+                String where = " after " + turns + " turns, torn at " + n;
+                x.arm(n, 255);
+                CHECK.due("lost" + where, x.change(PIN, OTHER), LOST);
+                CHECK.due("page" + where, x.page(), turns & 1);
+                CHECK.due("generation" + where, x.generation(), turns);
+                CHECK.due("free" + where, x.free(), 9);
+            }
+        }
     }
 
     private static void activeOfTwoGoodOnes() {
@@ -536,22 +537,25 @@ public final class TermsTest {
 
     private static void pinOfTheActivePage() {
         CHECK.says("The PIN is that of the active page");
-        for (int n = 1; n <= 10; n++) {
-            TornTryCounter x = Cards.turned();
-            x.arm(n, 255);
-            CHECK.due("change, torn at " + n, x.change(PIN, OTHER), LOST);
-            x.start();
-            CHECK.due("the old PIN, torn at " + n, x.verify(PIN), n == 10 ? WRONG : RIGHT);
-            CHECK.due("the new PIN, torn at " + n, x.verify(OTHER), n == 10 ? RIGHT : WRONG);
+        for (int turns = 0; turns <= 2; turns++) {
+            int last = turns == 0 ? 9 : 10;
+            for (int n = 1; n <= last; n++) {
+                pinOfTheActivePage(turns, n, n == last, x -> x.change(PIN, OTHER));
+            }
+            for (int n = 1; n <= last - 1; n++) {
+                pinOfTheActivePage(turns, n, n == last - 1, x -> x.unblock(PUK, OTHER));
+            }
         }
-        for (int n = 1; n <= 9; n++) {
-            TornTryCounter x = Cards.turned();
-            x.arm(n, 255);
-            CHECK.due("unblock, torn at " + n, x.unblock(PUK, OTHER), LOST);
-            x.start();
-            CHECK.due("the old PIN, torn at " + n, x.verify(PIN), n == 9 ? WRONG : RIGHT);
-            CHECK.due("the new PIN, torn at " + n, x.verify(OTHER), n == 9 ? RIGHT : WRONG);
-        }
+    }
+
+    private static void pinOfTheActivePage(int turns, int n, boolean last, Cards.Call call) {
+        TornTryCounter x = Cards.old(turns);
+        String where = " after " + turns + " turns, torn at " + n;
+        x.arm(n, 255);
+        CHECK.due("lost" + where, call.on(x), LOST);
+        x.start();
+        CHECK.due("the old PIN" + where, x.verify(PIN), last ? WRONG : RIGHT);
+        CHECK.due("the new PIN" + where, x.verify(OTHER), last ? RIGHT : WRONG);
     }
 
     private static void pukIsNeverChanged() {
@@ -689,6 +693,25 @@ public final class TermsTest {
         }
     }
 
+    private static void markInTheFirstFreeEntry() {
+        CHECK.says("then the first free entry of the active page is programmed with v: each once");
+        for (int turns = 0; turns <= 2; turns++) {
+            TornTryCounter x = Cards.old(turns);
+            for (int used = 1; used <= 7; used++) {
+                Cards.wrong(x, 1);
+                CHECK.due("free behind " + used + " after " + turns, x.free(), 10 - used);
+                CHECK.due("tries behind " + used + " after " + turns, x.tries(), 7 - used);
+            }
+            Cards.wrongPuk(x, 3);
+            CHECK.due("free behind ten after " + turns, x.free(), 0);
+            CHECK.due("puks behind ten after " + turns, x.puks(), 4);
+            Cards.wrongPuk(x, 1);
+            CHECK.due("free behind eleven after " + turns, x.free(), 9);
+            CHECK.due("tries behind eleven after " + turns, x.tries(), 0);
+            CHECK.due("puks behind eleven after " + turns, x.puks(), 3);
+        }
+    }
+
     private static void markTornWhileTurning() {
         CHECK.says("if no entry of the active page is free, the page is turned: torn while it turns");
         for (int n = 1; n <= 7; n++) {
@@ -814,6 +837,7 @@ public final class TermsTest {
                 Cards.cost(x, y -> y.verify(PIN)), before == 10 ? 9 : 2);
             CHECK.due("free, right behind " + before, x.free(), before == 10 ? 9 : 9 - before);
             CHECK.due("tries, right behind " + before, x.tries(), 7);
+            CHECK.due("puks, right behind " + before, x.puks(), 7);
         }
     }
 
